@@ -78,6 +78,18 @@ final class House {
         return String.join(" ", told);
     }
 
+    /** Everything that the house tells. */
+    static String all(MacroHouse house) {
+        StringBuilder told = new StringBuilder();
+        for (int what = 0; what <= 8; what++) {
+            told.append(house.about(what)).append(' ');
+        }
+        for (int i = 0; i < house.about(6); i++) {
+            told.append(house.line(i, 1)).append(',').append(house.line(i, 2)).append(' ');
+        }
+        return told + out(house) + " " + constants(house) + " " + macros(house);
+    }
+
     void same(String what, Object got, Object due) {
         checks++;
         if (!got.equals(due)) {
