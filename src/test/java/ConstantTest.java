@@ -8,6 +8,7 @@ public final class ConstantTest {
         told(h);
         order(h);
         wrongLines(h);
+        longNames(h);
         tooMany(h);
         h.done();
     }
@@ -63,6 +64,16 @@ public final class ConstantTest {
             text.append(".set k").append(k).append(',').append(k).append('\n');
         }
         return text.toString();
+    }
+
+    private static void longNames(House h) {
+        StringBuilder text = new StringBuilder();
+        for (int k = 10; k < 74; k++) {
+            text.append(".set abcdefghij").append(k).append(',').append(k).append('\n');
+        }
+        MacroHouse house = h.gives("", text + ".set abcdefghij73,abcdefghij73+1");
+        h.same("the last", house.constant(63, 0), 74);
+        h.same("its last sign", house.constant(63, 12), (int) '3');
     }
 
     private static void tooMany(House h) {

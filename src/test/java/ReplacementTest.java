@@ -117,6 +117,14 @@ public final class ReplacementTest {
                 ".macro m a", "x99999999,((((((99", ".set k,\\a", "x99999999,((((((99", ".rept \\a",
                 "x99999999,((((((99", ".endr", ".if \\a", "y", ".endif", ".endm", "m 1");
         h.same("a constant", House.constants(house), "k=1");
+        String[] longer = {"-+++++++++++++++", "-,,,,,,,,,,,,,,,", "-(((((((((((((((",
+            "-)))))))))))))))", "-===============", "-999999999999999", "-xxxxxxxxxxxxxxx",
+            "-              x"};
+        for (String x : longer) {
+            h.gives(House.times(5, x + "|") + "[1]|<1>", ".macro in a", "[\\a]", ".endm",
+                    ".macro m a", x, ".set k,\\a", x, ".if \\a", x, ".endif", x, ".rept \\a", ".endr",
+                    x, "in \\a", ".each w,\\a", "<\\w>", ".endr", ".endm", "m 1");
+        }
         h.gives("================|1;2|1", ".macro in a,b", "================", "\\a;\\b", ".endm",
                 ".macro m a", "in \\a,2", "\\a", ".endm", "m 1");
         h.gives("================|1|================|2|(3)", ".macro m a,b", ".each w,\\a,\\b",
