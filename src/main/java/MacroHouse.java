@@ -819,6 +819,8 @@ public final class MacroHouse {
         int replacedFrom;
         int replacedTo;
         private boolean wrong;
+        /** The depth of the macro around the line that is replaced, 0 without one. */
+        private int around;
 
         Stack(Signs signs, Macros macros) {
             this.signs = signs;
@@ -946,6 +948,7 @@ public final class MacroHouse {
             replacedFrom = MOST_SIGNS + Math.max(0, depth - 1) * MOST_REPLACED;
             replacedTo = replacedFrom;
             wrong = false;
+            around = macroDepth();
             int k = from;
             while (k < to) {
                 if (signs.at(k) == '\\') {
@@ -965,8 +968,7 @@ public final class MacroHouse {
         private int replaceMark(int from, int to) {
             int sign = from < to ? signs.at(from) : NONE;
             if (sign == '@') {
-                int d = macroDepth();
-                appendNumber(d == 0 ? NONE : frameAt(d).number);
+                appendNumber(around == 0 ? NONE : frameAt(around).number);
                 return from + 1;
             }
             if (sign == '?') {
@@ -979,7 +981,6 @@ public final class MacroHouse {
         }
 
         private void appendNamed(int from, int to) {
-            int around = macroDepth();
             for (int d = depth; d > around; d--) {
                 Frame frame = frameAt(d);
                 if (frame.kind == Directive.EACH
