@@ -4,6 +4,7 @@ import java.util.List;
 /** What the tests share: a house with a text, what it tells in one go, and a count of wrongs. */
 final class House {
     private final String test;
+    private String sentence = "";
     private int wrong = 0;
     private int checks = 0;
 
@@ -90,12 +91,25 @@ final class House {
         return told + out(house) + " " + constants(house) + " " + macros(house);
     }
 
+    /** The sentence of the document that the checks behind it test; told with each wrong one. */
+    void says(String words) {
+        sentence = " '" + words + "':";
+    }
+
     void same(String what, Object got, Object due) {
         checks++;
         if (!got.equals(due)) {
             wrong++;
-            System.out.println(test + ": " + what + " is " + got + ", due is " + due);
+            System.out.println(test + ":" + sentence + " " + brief(what) + " is " + brief(got)
+                    + ", due is " + brief(due));
         }
+    }
+
+    /** Without the middle of what is long. */
+    private static String brief(Object told) {
+        String all = String.valueOf(told);
+        return all.length() <= 400 ? all
+                : all.substring(0, 200) + " .. " + all.substring(all.length() - 190);
     }
 
     /** What must go out of the text, without a fault. */
