@@ -98,10 +98,13 @@ public final class FaultBoundaryTest {
         h.says("more than 4000 lines that were looked at, as they are kept");
         h.same("a macro's", h.gives("", many(".macro m" + House.times(58, "\n") + ".endm")).about(2),
                 4000);
-        h.faults(6, 100, many(".macro m" + House.times(59, "\n") + ".endm"));
+        h.same("no macro", h.faults(6, 100, many(".macro m" + House.times(59, "\n") + ".endm"))
+                .about(4), 0);
         h.same("a .rept's", h.gives("", many(".rept 0" + House.times(58, "\n") + ".endr")).about(2),
                 4000);
         h.faults(6, 100, many(".rept 0" + House.times(59, "\n") + ".endr"));
+        h.same("none is opened", h.faults(6, 41, many(House.lines(".rept 1", ".rept 1",
+                House.times(38, "\n") + ".endr", ".endr"))).about(8), 1);
         h.same("that don't come", h.gives("", many(".if 0" + House.times(58, "\n") + ".endif"))
                 .about(2), 4000);
         h.faults(6, 100, many(".if 0" + House.times(59, "\n") + ".endif"));

@@ -11,6 +11,7 @@ public final class ReplacedBoundaryTest {
         textItself(h);
         length(h);
         lengthOfAll(h);
+        lengthOfDeepest(h);
         lengthAndForm(h);
         openRepts(h);
         openOfAllKinds(h);
@@ -135,6 +136,17 @@ public final class ReplacedBoundaryTest {
         h.gives("", ".macro m", House.times(301, "x"), ".endm");
         h.gives(House.times(301, "x"), House.times(301, "x"));
         h.gives("x", ".macro m", ".leave", House.times(301, "x"), ".endm", "m", "x");
+    }
+
+    private static void lengthOfDeepest(House h) {
+        h.says("A line has at most 300 signs then: where 12 are open too");
+        String half = House.times(145, "x");
+        h.gives(House.times(300, "x"), repts(12, House.times(300, "x")));
+        h.faults(6, 0, repts(12, House.times(301, "x")));
+        h.gives("y", repts(12, ".ifsame  " + half + "," + half + "\ny\n.endif"));
+        h.gives("", repts(12, ".ifsame  " + half + "," + half.replaceFirst("x$", "z") + "\ny\n.endif"));
+        h.gives("x", repts(11, ".each w,\nx" + House.times(299, " ") + "\\w\n.endr"));
+        h.faults(6, 0, repts(11, ".each w,\nx" + House.times(300, " ") + "\\w\n.endr"));
     }
 
     private static void lengthAndForm(House h) {

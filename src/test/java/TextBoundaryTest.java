@@ -22,6 +22,7 @@ public final class TextBoundaryTest {
         wraps(h);
         byZero(h);
         nested(h);
+        nestedElsewhere(h);
         nestedMinus(h);
         h.done();
     }
@@ -58,6 +59,7 @@ public final class TextBoundaryTest {
         }
         MacroHouse house = h.gives("a|b", "a", "b", "");
         h.same("with a line end at the end", house.about(2), 3);
+        h.same("3000 line ends", h.gives("", House.times(3000, "\n")).about(2), 3001);
         h.same("the first line", house.line(0, 1), 0);
         h.same("the second line", house.line(1, 1), 1);
     }
@@ -278,6 +280,17 @@ public final class TextBoundaryTest {
                 + House.times(10, ")"), 14);
         value(h, House.times(10, "(") + "9-a-1" + House.times(10, ")"), 1);
         value(h, House.times(10, "(") + "?a" + House.times(10, ")"), 1);
+    }
+
+    private static void nestedElsewhere(House h) {
+        h.says("At most 10 of ( and - are open in one another, in .if, .elseif and .rept too");
+        String[] values = {House.times(10, "(") + "1" + House.times(10, ")"), House.times(10, "-") + "1",
+            House.times(5, "-(") + "1" + House.times(5, ")") + "+2"};
+        for (String value : values) {
+            h.gives("x", ".if " + value, "x", ".endif");
+            h.gives("x", ".if 0", ".elseif " + value, "x", ".endif");
+            h.gives("x", ".rept " + value, "x", ".endr");
+        }
     }
 
     private static void nestedMinus(House h) {
