@@ -140,6 +140,7 @@ public final class ConditionBoundaryTest {
         h.gives("", ".macro m x", ".if 0", "\\x", "a", ".endif", ".endm", "m .endif");
         h.gives("", ".macro m x", ".if 0", ".\\x", "a", ".endif", ".endm", "m else");
         h.gives("", ".macro m x", ".if 0", ".if\\x", "a", ".endif", ".endif", ".endm", "m y");
+        h.gives("y", ".macro m x", ".if 0", ".elseif\\x", "y", ".endif", ".endm", "m 1");
         h.gives("", ".if 0", ".endifs", ".else1", ".endif");
     }
 
