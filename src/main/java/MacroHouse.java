@@ -920,11 +920,13 @@ public final class MacroHouse {
         /** Makes an EACH's texts ready in the spare frame: how many, NONE if they can't be. */
         int readTexts(int from, int to) {
             int texts = 0;
-            for (int at = from; at <= to; at++) {
-                at = signs.argumentEnd(at, to);
-                if (at == NONE) {
+            int at = from;
+            for (int k = from; k <= to && at <= to; k++) {
+                int stop = signs.argumentEnd(at, to);
+                if (stop == NONE) {
                     return NONE;
                 }
+                at = stop + 1;
                 texts++;
             }
             Frame frame = spare();
@@ -1292,7 +1294,7 @@ public final class MacroHouse {
                     changeCondition();
                     break;
                 case MACRO:
-                    defineMacro();
+                    defineMacro(macros.readHead(reader));
                     break;
                 case REPT:
                     openRept();
@@ -1439,9 +1441,9 @@ public final class MacroHouse {
             }
         }
 
-        private void defineMacro() {
+        private void defineMacro(boolean isHeadGood) {
             int head = current;
-            if (!macros.readHead(reader)) {
+            if (!isHeadGood) {
                 fail(BAD_FORM);
             } else if (macros.isHeadTold()) {
                 fail(NAME_TWICE);
