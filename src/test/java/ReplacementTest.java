@@ -8,6 +8,7 @@ public final class ReplacementTest {
         wrongMarks(h);
         firstWords(h);
         conditions(h);
+        ends(h);
         length(h);
         apart(h);
         h.done();
@@ -89,6 +90,14 @@ public final class ReplacementTest {
         h.gives("", ".macro m x", ".if 1", ".else\\x", "y", ".endif", ".endm", "m if 1");
         h.faults(5, 8, ".macro m x", ".if 1", ".else\\x", "y", ".else", ".else", ".endif", ".endm",
                 "m if 1");
+    }
+
+    /** An .endr or .endm that ends kept lines is one by its word in the text and doesn't come. */
+    private static void ends(House h) {
+        h.gives("x|x", ".macro m", ".rept 2", "x", ".endr \\z", ".endm \\z", "m");
+        h.gives("p", ".rept 1", ".each w,p", "\\w", ".endr\\z", ".endr \\z");
+        h.faults(1, 3, ".macro m", ".endr \\z", ".endm", "m");
+        h.faults(1, 0, ".rept 1", ".endm \\z", ".endr");
     }
 
     private static void length(House h) {
